@@ -670,7 +670,7 @@ public final class TaskKernel {
             if (count >= held.length) {
                 return false;
             }
-            held[(first + count) % held.length] = n;
+            held[slot(count)] = n;
             count++;
             return true;
         }
@@ -678,13 +678,19 @@ public final class TaskKernel {
         /** Whoever calls has seen that count is above 0. */
         int removeFirst() {
             int n = held[first];
-            first = (first + 1) % held.length;
+            first = slot(1);
             count--;
             return n;
         }
 
         int fromFirst(int k) {
-            return k >= 0 && k < count ? held[(first + k) % held.length] : NONE;
+            return k >= 0 && k < count ? held[slot(k)] : NONE;
+        }
+
+        /** Where the number k behind the first one stands; k is at most the room. */
+        private int slot(int k) {
+            int straight = first + k;
+            return straight < held.length ? straight : straight - held.length;
         }
     }
 }

@@ -277,9 +277,9 @@ public final class PromisesTest {
         x.run(2);
         due("6: task 1 sleeps last", 2, x.task(1, 4));
         due("6: all wake", 3, x.tick());
-        due("6: by priority", 2, x.next());
+        due("6: of the same priority the one that slept first, not the least number", 2, x.next());
         x.kill(2);
-        due("6: by priority", 0, x.next());
+        due("6: then the other one of that priority", 0, x.next());
     }
 
     private static void kill() {
