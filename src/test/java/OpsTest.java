@@ -2,6 +2,7 @@
 public final class OpsTest {
     private static final int NONE = TaskKernel.NONE;
     private static final Check CHECK = new Check("OpsTest");
+    private static final Probe PROBE = new Probe(CHECK);
 
     public static void main(String[] args) {
         wordsAndPlaces();
@@ -35,43 +36,6 @@ public final class OpsTest {
         return Words.word(op, 0);
     }
 
-    /** The last step's answer when task 0 runs all these words, without its mark of task 0. */
-    private static int lastAnswer(TaskKernel x, int words) {
-        int answer = -1;
-        for (int i = 0; i < words; i++) {
-            answer = x.step();
-        }
-        return answer;
-    }
-
-    /** Runs the words: the last of them must end the task by the trap, and none before it. */
-    private static void dueTrap(String about, int trap, int... words) {
-        dueTrapWith(8, about, trap, words);
-    }
-
-    private static void dueTrapWith(int stackRoom, String about, int trap, int... words) {
-        TaskKernel x = Words.begunWith(stackRoom, words);
-        for (int i = 1; i < words.length; i++) {
-            due(about + ": before the trap", 0, x.step());
-        }
-        due(about + ": step()", 8 + trap, x.step());
-        due(about + ": state(0)", 0, x.state(0));
-        due(about + ": why(0)", 2 + trap, x.why(0));
-        due(about + ": next()", -1, x.next());
-    }
-
-    /** Runs the words, all of which leave the task ready, and looks at its stack, from the top. */
-    private static void dueStack(String about, int[] words, int... fromTop) {
-        TaskKernel x = Words.begun(words);
-        for (int i = 0; i < words.length; i++) {
-            due(about + ": step()", 0, x.step());
-        }
-        due(about + ": height", fromTop.length, x.task(0, 2));
-        for (int k = 0; k < fromTop.length; k++) {
-            due(about + ": number " + k, fromTop[k], x.stack(0, k));
-        }
-    }
-
     private static int[] two(int lower, int upper, int op) {
         return new int[] {Words.push(lower), Words.push(upper), w(op)};
     }
@@ -87,64 +51,64 @@ public final class OpsTest {
         due("it is ready there", 1, x.state(0));
         due("place 64: step()", 8 + 2, x.step());
         due("place 64: why(0)", 4, x.why(0));
-        dueStack("the number has a sign", new int[] {1 | -1 << 5, 1 | 1 << 31, 1 | 0x7fffffe0}, 0x3ffffff, -67108864, -1);
+        PROBE.dueStack("the number has a sign", new int[] {1 | -1 << 5, 1 | 1 << 31, 1 | 0x7fffffe0}, 0x3ffffff, -67108864, -1);
         TaskKernel y = Words.begun(w(Words.END, 55));
         due("op 0 with a number", 1, y.step());
         due("op 0: why(0)", 1, y.why(0));
     }
 
     private static void puts() {
-        dueStack("op 1", new int[] {Words.push(3), Words.push(-4)}, -4, 3);
-        dueTrapWith(2, "op 1 on a full stack", 1, Words.push(1), Words.push(1), Words.push(1));
+        PROBE.dueStack("op 1", new int[] {Words.push(3), Words.push(-4)}, -4, 3);
+        PROBE.dueTrapWith(2, "op 1 on a full stack", 1, Words.push(1), Words.push(1), Words.push(1));
     }
 
     private static void arithmetic() {
-        dueStack("op 2", two(7, 5, Words.ADD), 12);
-        dueStack("op 3", two(7, 5, Words.SUB), 2);
-        dueStack("op 4", two(7, -5, Words.MUL), -35);
-        dueStack("op 5", two(7, 2, Words.DIV), 3);
-        dueStack("op 5 is cut", two(-7, 2, Words.DIV), -3);
-        dueStack("op 5 is cut", two(7, -2, Words.DIV), -3);
-        dueStack("op 5 of 0", two(0, -2, Words.DIV), 0);
-        dueTrap("division by 0", 3, two(7, 0, Words.DIV));
-        dueTrap("division of 0 by 0", 3, two(0, 0, Words.DIV));
-        dueTrap("division takes both before it looks", 1, Words.push(0), w(Words.DIV));
+        PROBE.dueStack("op 2", two(7, 5, Words.ADD), 12);
+        PROBE.dueStack("op 3", two(7, 5, Words.SUB), 2);
+        PROBE.dueStack("op 4", two(7, -5, Words.MUL), -35);
+        PROBE.dueStack("op 5", two(7, 2, Words.DIV), 3);
+        PROBE.dueStack("op 5 is cut", two(-7, 2, Words.DIV), -3);
+        PROBE.dueStack("op 5 is cut", two(7, -2, Words.DIV), -3);
+        PROBE.dueStack("op 5 of 0", two(0, -2, Words.DIV), 0);
+        PROBE.dueTrap("division by 0", 3, two(7, 0, Words.DIV));
+        PROBE.dueTrap("division of 0 by 0", 3, two(0, 0, Words.DIV));
+        PROBE.dueTrap("division takes both before it looks", 1, Words.push(0), w(Words.DIV));
         int[] greatest = {Words.push(1 << 16), Words.push(1 << 15), w(Words.MUL)};
-        dueStack("op 4 wraps", greatest, Integer.MIN_VALUE);
-        dueStack("op 4 wraps", new int[] {Words.push(1 << 20), w(Words.DUP), w(Words.MUL)}, 0);
-        dueStack("op 3 wraps", new int[] {greatest[0], greatest[1], greatest[2], Words.push(1), w(Words.SUB)}, Integer.MAX_VALUE);
-        dueStack("op 2 wraps", new int[] {greatest[0], greatest[1], greatest[2], w(Words.DUP), w(Words.ADD)}, 0);
-        dueStack("the least number by -1", new int[] {greatest[0], greatest[1], greatest[2], Words.push(-1), w(Words.DIV)},
+        PROBE.dueStack("op 4 wraps", greatest, Integer.MIN_VALUE);
+        PROBE.dueStack("op 4 wraps", new int[] {Words.push(1 << 20), w(Words.DUP), w(Words.MUL)}, 0);
+        PROBE.dueStack("op 3 wraps", new int[] {greatest[0], greatest[1], greatest[2], Words.push(1), w(Words.SUB)}, Integer.MAX_VALUE);
+        PROBE.dueStack("op 2 wraps", new int[] {greatest[0], greatest[1], greatest[2], w(Words.DUP), w(Words.ADD)}, 0);
+        PROBE.dueStack("the least number by -1", new int[] {greatest[0], greatest[1], greatest[2], Words.push(-1), w(Words.DIV)},
             Integer.MIN_VALUE);
-        dueStack("what lies below stays", new int[] {Words.push(9), Words.push(7), Words.push(5), w(Words.SUB)}, 2, 9);
+        PROBE.dueStack("what lies below stays", new int[] {Words.push(9), Words.push(7), Words.push(5), w(Words.SUB)}, 2, 9);
     }
 
     private static void lessThan() {
-        dueStack("1 < 2", two(1, 2, Words.LESS), 1);
-        dueStack("2 < 1", two(2, 1, Words.LESS), 0);
-        dueStack("2 < 2", two(2, 2, Words.LESS), 0);
-        dueStack("-2 < 1", two(-2, 1, Words.LESS), 1);
+        PROBE.dueStack("1 < 2", two(1, 2, Words.LESS), 1);
+        PROBE.dueStack("2 < 1", two(2, 1, Words.LESS), 0);
+        PROBE.dueStack("2 < 2", two(2, 2, Words.LESS), 0);
+        PROBE.dueStack("-2 < 1", two(-2, 1, Words.LESS), 1);
         int[] apart = {Words.push(1 << 16), Words.push(1 << 15), w(Words.MUL), Words.push(1), w(Words.LESS)};
-        dueStack("the least number is less", apart, 1);
+        PROBE.dueStack("the least number is less", apart, 1);
     }
 
     private static void copyDropSwap() {
-        dueStack("op 6", new int[] {Words.push(4), Words.push(5), w(Words.DUP)}, 5, 5, 4);
-        dueStack("op 7", new int[] {Words.push(4), Words.push(5), w(Words.DROP)}, 4);
-        dueStack("op 8", new int[] {Words.push(3), Words.push(4), Words.push(5), w(Words.SWAP)}, 4, 5, 3);
+        PROBE.dueStack("op 6", new int[] {Words.push(4), Words.push(5), w(Words.DUP)}, 5, 5, 4);
+        PROBE.dueStack("op 7", new int[] {Words.push(4), Words.push(5), w(Words.DROP)}, 4);
+        PROBE.dueStack("op 8", new int[] {Words.push(3), Words.push(4), Words.push(5), w(Words.SWAP)}, 4, 5, 3);
     }
 
     private static void memory() {
-        dueStack("op 9", new int[] {Words.push(15), w(Words.LOAD)}, 0);
-        dueStack("op 10 and 9", new int[] {Words.push(44), Words.push(15), w(Words.STORE), Words.push(15), w(Words.LOAD)}, 44);
-        dueTrap("op 9 at 16", 2, Words.push(16), w(Words.LOAD));
-        dueTrap("op 9 at -1", 2, Words.push(-1), w(Words.LOAD));
-        dueTrap("op 10 at 16", 2, Words.push(1), Words.push(16), w(Words.STORE));
-        dueTrap("op 10 at -1", 2, Words.push(1), Words.push(-1), w(Words.STORE));
-        dueTrap("op 10 looks at the place before it takes a", 2, Words.push(16), w(Words.STORE));
-        dueTrap("op 10 without a", 1, Words.push(15), w(Words.STORE));
+        PROBE.dueStack("op 9", new int[] {Words.push(15), w(Words.LOAD)}, 0);
+        PROBE.dueStack("op 10 and 9", new int[] {Words.push(44), Words.push(15), w(Words.STORE), Words.push(15), w(Words.LOAD)}, 44);
+        PROBE.dueTrap("op 9 at 16", 2, Words.push(16), w(Words.LOAD));
+        PROBE.dueTrap("op 9 at -1", 2, Words.push(-1), w(Words.LOAD));
+        PROBE.dueTrap("op 10 at 16", 2, Words.push(1), Words.push(16), w(Words.STORE));
+        PROBE.dueTrap("op 10 at -1", 2, Words.push(1), Words.push(-1), w(Words.STORE));
+        PROBE.dueTrap("op 10 looks at the place before it takes a", 2, Words.push(16), w(Words.STORE));
+        PROBE.dueTrap("op 10 without a", 1, Words.push(15), w(Words.STORE));
         TaskKernel x = Words.begun(Words.push(5), w(Words.STORE));
-        due("op 10 without a", 9, lastAnswer(x, 2));
+        due("op 10 without a", 9, Probe.lastAnswer(x, 2));
         due("op 10 without a changes no memory", 0, x.memory(5));
     }
 
@@ -152,19 +116,19 @@ public final class OpsTest {
         TaskKernel x = Words.begun(w(Words.JUMP, 63));
         due("op 11: step()", 0, x.step());
         due("op 11: place", 63, x.task(0, 0));
-        dueTrap("op 11 to 64", 2, w(Words.JUMP, 64));
-        dueTrap("op 11 to -1", 2, w(Words.JUMP, -1));
+        PROBE.dueTrap("op 11 to 64", 2, w(Words.JUMP, 64));
+        PROBE.dueTrap("op 11 to -1", 2, w(Words.JUMP, -1));
         x = Words.begun(Words.push(0), w(Words.JUMP_ZERO, 9));
-        due("op 12 with 0: step()", 0, lastAnswer(x, 2));
+        due("op 12 with 0: step()", 0, Probe.lastAnswer(x, 2));
         due("op 12 with 0: place", 9, x.task(0, 0));
         due("op 12 takes a", 0, x.task(0, 2));
         x = Words.begun(Words.push(-1), w(Words.JUMP_ZERO, 64));
-        due("op 12 with -1: step()", 0, lastAnswer(x, 2));
+        due("op 12 with -1: step()", 0, Probe.lastAnswer(x, 2));
         due("op 12 with -1: place", 2, x.task(0, 0));
         due("op 12 takes a", 0, x.task(0, 2));
-        dueTrap("op 12 to 64", 2, Words.push(0), w(Words.JUMP_ZERO, 64));
-        dueTrap("op 12 to -1", 2, Words.push(0), w(Words.JUMP_ZERO, -1));
-        dueTrap("op 12 takes a before it jumps", 1, w(Words.JUMP_ZERO, 64));
+        PROBE.dueTrap("op 12 to 64", 2, Words.push(0), w(Words.JUMP_ZERO, 64));
+        PROBE.dueTrap("op 12 to -1", 2, Words.push(0), w(Words.JUMP_ZERO, -1));
+        PROBE.dueTrap("op 12 takes a before it jumps", 1, w(Words.JUMP_ZERO, 64));
     }
 
     private static void frames() {
@@ -175,18 +139,18 @@ public final class OpsTest {
         x.run(2);
         due("op 14: place", 3, x.task(0, 0));
         due("op 14: frames", 1, x.task(0, 3));
-        dueTrap("op 13 to 64", 2, w(Words.CALL, 64));
-        dueTrap("op 13 to -1", 2, w(Words.CALL, -1));
-        dueTrap("a fifth frame", 5, w(Words.CALL, 1), w(Words.CALL, 2), w(Words.CALL, 3), w(Words.CALL, 4), w(Words.CALL, 5));
-        dueTrap("op 13 looks at the place before the frames", 2, w(Words.CALL, 1), w(Words.CALL, 2), w(Words.CALL, 3),
+        PROBE.dueTrap("op 13 to 64", 2, w(Words.CALL, 64));
+        PROBE.dueTrap("op 13 to -1", 2, w(Words.CALL, -1));
+        PROBE.dueTrap("a fifth frame", 5, w(Words.CALL, 1), w(Words.CALL, 2), w(Words.CALL, 3), w(Words.CALL, 4), w(Words.CALL, 5));
+        PROBE.dueTrap("op 13 looks at the place before the frames", 2, w(Words.CALL, 1), w(Words.CALL, 2), w(Words.CALL, 3),
             w(Words.CALL, 4), w(Words.CALL, 64));
-        dueTrap("op 14 without a frame", 5, w(Words.BACK));
-        dueTrap("op 14 takes the frame away", 5, w(Words.CALL, 2), w(Words.BACK), w(Words.BACK));
+        PROBE.dueTrap("op 14 without a frame", 5, w(Words.BACK));
+        PROBE.dueTrap("op 14 takes the frame away", 5, w(Words.CALL, 2), w(Words.BACK), w(Words.BACK));
         x = new TaskKernel(1, 1, 0, 1);
         Words.load(x, 63, w(Words.CALL, 5));
         Words.load(x, 5, w(Words.BACK));
         x.spawn(63, 0);
-        due("a frame with the place 64", 0, lastAnswer(x, 2));
+        due("a frame with the place 64", 0, Probe.lastAnswer(x, 2));
         due("the place 64", 64, x.task(0, 0));
         due("a step there", 10, x.step());
     }
@@ -212,13 +176,13 @@ public final class OpsTest {
         TaskKernel x = new TaskKernel(3, 2, 0, 1);
         Words.load(x, 0, Words.push(13), w(Words.BEGIN, 63), Words.push(-1), w(Words.BEGIN, 9), Words.push(0), w(Words.BEGIN, 0));
         x.spawn(0, 7);
-        due("op 18", 0, lastAnswer(x, 2));
+        due("op 18", 0, Probe.lastAnswer(x, 2));
         due("op 18 puts its number", 1, x.stack(0, 0));
         due("op 18: state", 1, x.state(1));
         due("op 18: place", 63, x.task(1, 0));
         due("op 18: priority p & 7", 5, x.task(1, 1));
         due("op 18: empty stack", 0, x.task(1, 2));
-        due("op 18 with -1", 0, lastAnswer(x, 2));
+        due("op 18 with -1", 0, Probe.lastAnswer(x, 2));
         due("op 18 with -1: priority", 7, x.task(2, 1));
         due("the one that begins arrives later", 0, x.next());
         due("a full stack has room for what 18 puts", 2, x.task(0, 2));
@@ -228,12 +192,12 @@ public final class OpsTest {
         x.kill(1);
         x.spawn(0, 0);
         x.spawn(0, 0);
-        due("op 18 when none is free", 0, lastAnswer(x, 2));
+        due("op 18 when none is free", 0, Probe.lastAnswer(x, 2));
         due("op 18 when none is free puts -1", -1, x.stack(0, 0));
-        dueTrap("op 18 at 64", 2, Words.push(1), w(Words.BEGIN, 64));
-        dueTrap("op 18 at -1", 2, Words.push(1), w(Words.BEGIN, -1));
-        dueTrap("op 18 looks at the place before it takes", 2, w(Words.BEGIN, 64));
-        dueTrap("op 18 without a number", 1, w(Words.BEGIN, 5));
+        PROBE.dueTrap("op 18 at 64", 2, Words.push(1), w(Words.BEGIN, 64));
+        PROBE.dueTrap("op 18 at -1", 2, Words.push(1), w(Words.BEGIN, -1));
+        PROBE.dueTrap("op 18 looks at the place before it takes", 2, w(Words.BEGIN, 64));
+        PROBE.dueTrap("op 18 without a number", 1, w(Words.BEGIN, 5));
         x = Words.begun(w(Words.BEGIN, 5));
         x.step();
         due("op 18 without a number begins none", 0, x.state(1));
@@ -247,14 +211,14 @@ public final class OpsTest {
             x.tick();
             x.tick();
             x.tick();
-            due("op 20 with " + asked[i], 2, lastAnswer(x, 2));
+            due("op 20 with " + asked[i], 2, Probe.lastAnswer(x, 2));
             due("op 20 with " + asked[i] + ": wakes", wakes[i], x.task(0, 4));
             due("op 20 takes n", 0, x.task(0, 2));
         }
         for (int n = -1; n <= 0; n++) {
             TaskKernel x = Words.begun(Words.push(n), w(Words.SLEEP));
             x.spawn(0, 3);
-            due("op 20 with " + n, 0, lastAnswer(x, 2));
+            due("op 20 with " + n, 0, Probe.lastAnswer(x, 2));
             due("op 20 with " + n + ": state", 1, x.state(0));
             due("op 20 with " + n + " keeps the arrival", 0, x.next());
         }
@@ -285,7 +249,7 @@ public final class OpsTest {
         TaskKernel x = Words.begun(Words.push(1), w(Words.KILL), Words.push(1), w(Words.KILL), Words.push(4), w(Words.KILL),
             Words.push(-1), w(Words.KILL), Words.push(0), w(Words.KILL));
         x.spawn(0, 0);
-        due("op 25", 0, lastAnswer(x, 2));
+        due("op 25", 0, Probe.lastAnswer(x, 2));
         due("op 25 of a live task puts 1", 1, x.stack(0, 0));
         due("op 25: state", 0, x.state(1));
         due("op 25: why", 2, x.why(1));
@@ -296,7 +260,7 @@ public final class OpsTest {
         x.run(2);
         due("op 25 of task -1 puts 0", 0, x.stack(0, 0));
         due("op 25 takes k", 4, x.task(0, 2));
-        due("op 25 of itself", 1, lastAnswer(x, 2));
+        due("op 25 of itself", 1, Probe.lastAnswer(x, 2));
         due("op 25 of itself: state", 0, x.state(0));
         due("op 25 of itself: why", 2, x.why(0));
         due("op 25 of itself: task", NONE, x.task(0, 2));
@@ -304,8 +268,8 @@ public final class OpsTest {
 
     private static void noSuchOp() {
         for (int op = 26; op < 32; op++) {
-            dueTrap("op " + op, 4, w(op, 0));
-            dueTrap("op " + op + " with a number", 4, w(op, -3));
+            PROBE.dueTrap("op " + op, 4, w(op, 0));
+            PROBE.dueTrap("op " + op + " with a number", 4, w(op, -3));
         }
     }
 
@@ -313,12 +277,12 @@ public final class OpsTest {
         int[] takesOne = {Words.DUP, Words.DROP, Words.LOAD, Words.STORE, Words.JUMP_ZERO, Words.EMIT, Words.BEGIN, Words.SLEEP,
             Words.SEND, Words.KILL};
         for (int op : takesOne) {
-            dueTrap("op " + op + " on an empty stack", 1, w(op));
+            PROBE.dueTrap("op " + op + " on an empty stack", 1, w(op));
         }
         int[] takesTwo = {Words.ADD, Words.SUB, Words.MUL, Words.DIV, Words.SWAP, Words.LESS, Words.STORE};
         for (int op : takesTwo) {
-            dueTrap("op " + op + " on an empty stack", 1, w(op));
-            dueTrap("op " + op + " on one number", 1, Words.push(1), w(op));
+            PROBE.dueTrap("op " + op + " on an empty stack", 1, w(op));
+            PROBE.dueTrap("op " + op + " on one number", 1, Words.push(1), w(op));
         }
         TaskKernel x = Words.begun(w(Words.EMIT));
         x.step();
@@ -328,18 +292,18 @@ public final class OpsTest {
     private static void fullStacks() {
         int[] puts = {Words.PUSH, Words.DUP, Words.RECEIVE, Words.SELF, Words.CLOCK};
         for (int op : puts) {
-            dueTrapWith(1, "op " + op + " on a full stack", 1, Words.push(1), w(op));
+            PROBE.dueTrapWith(1, "op " + op + " on a full stack", 1, Words.push(1), w(op));
             TaskKernel x = Words.begunWith(2, Words.push(1), w(op));
-            int answer = lastAnswer(x, 2);
+            int answer = Probe.lastAnswer(x, 2);
             due("op " + op + " with room for one", op == Words.RECEIVE ? 4 : 0, answer);
         }
         int[] keepsTheHeight = {Words.LOAD, Words.BEGIN, Words.KILL};
         for (int op : keepsTheHeight) {
             TaskKernel x = Words.begunWith(1, Words.push(2), w(op));
-            due("op " + op + " puts where it took", 0, lastAnswer(x, 2));
+            due("op " + op + " puts where it took", 0, Probe.lastAnswer(x, 2));
             due("op " + op + ": height", 1, x.task(0, 2));
         }
         TaskKernel x = Words.begunWith(2, Words.push(2), Words.push(3), w(Words.SWAP));
-        due("op 8 on a full stack", 0, lastAnswer(x, 3));
+        due("op 8 on a full stack", 0, Probe.lastAnswer(x, 3));
     }
 }

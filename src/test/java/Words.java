@@ -1,3 +1,5 @@
+import java.util.Arrays;
+
 /** The ops by name, and programs made of them. */
 final class Words {
     static final int END = 0;
@@ -36,6 +38,25 @@ final class Words {
 
     static int push(int x) {
         return word(PUSH, x);
+    }
+
+    /** Words that put any int; a word alone has 27 bits for it. Needs room for two numbers. */
+    static int[] number(int n) {
+        if (n == n << 5 >> 5) {
+            return new int[] {push(n)};
+        }
+        return new int[] {push(n >> 16), push(1 << 16), word(MUL, 0), push(n & 0xffff), word(ADD, 0)};
+    }
+
+    static int[] join(int[]... rows) {
+        return Arrays.stream(rows).flatMapToInt(Arrays::stream).toArray();
+    }
+
+    /** The same word again and again. */
+    static int[] times(int count, int word) {
+        int[] words = new int[count];
+        Arrays.fill(words, word);
+        return words;
     }
 
     static void load(TaskKernel kernel, int place, int... words) {
