@@ -8,7 +8,7 @@ public final class TaskKernel {
 
     private static final int CODE_WORDS = 64;
     private static final int MEMORY_NUMBERS = 16;
-    private static final int OUTS_KEPT = 32;
+    private static final int OUTS_KEPT = 32; // a power of two, see outSlot
     private static final int MOST_FRAMES = 4;
     private static final int MOST_STEPS = 64;
     private static final int MOST_PRIORITY = 7;
@@ -204,7 +204,7 @@ public final class TaskKernel {
         if (k < 0 || k >= OUTS_KEPT || k >= outCount) {
             return NONE;
         }
-        return outs[(outCount - 1 - k) % OUTS_KEPT];
+        return outs[outSlot(outCount - 1 - k)];
     }
 
     public int why(int task) {
@@ -225,6 +225,11 @@ public final class TaskKernel {
 
     private static boolean isCell(int a) {
         return a >= 0 && a < MEMORY_NUMBERS;
+    }
+
+    /** A mask and no remainder: the slot is one of the row's even if the count should ever wrap below 0. */
+    private static int outSlot(int count) {
+        return count & (OUTS_KEPT - 1);
     }
 
     private boolean isQueue(int q) {
@@ -502,7 +507,7 @@ public final class TaskKernel {
         if (task.numbers.count < 1) {
             return STACK_TRAP;
         }
-        outs[outCount % OUTS_KEPT] = task.numbers.pop();
+        outs[outSlot(outCount)] = task.numbers.pop();
         outCount++;
         return NO_TRAP;
     }

@@ -1,4 +1,10 @@
-/** The sentences of "Terms" that name a boundary case, but for the ops and the queues: a test of its own for each. */
+import java.util.ArrayList;
+import java.util.List;
+
+/**
+ * The sentences of "What it is" and "Terms" that name a boundary case, but for the ops and the queues: a test of its
+ * own for each.
+ */
 public final class TermsEdgesTest {
     private static final int NONE = TaskKernel.NONE;
     private static final int MIN = Integer.MIN_VALUE;
@@ -28,7 +34,8 @@ public final class TermsEdgesTest {
         numberHasASign();
         placeIsOneFurtherFirst();
         stepAtThePlace64();
-        trapEndsTheTaskAlone();
+        trapEndsTheTask();
+        whatGoesWrongEndsTheTaskAlone();
         whatWasDoneBeforeATrapStays();
         objectIsUsedFor512Calls();
         CHECK.finish();
@@ -463,12 +470,17 @@ public final class TermsEdgesTest {
         due("awake at 64", 10, z.step());
     }
 
-    private static void trapEndsTheTaskAlone() {
-        CHECK.sentence("A TRAP ends the task");
-        int[][] trapping = {{w(Words.DROP)}, {w(Words.JUMP, 64)}, {Words.push(1), Words.push(0), w(Words.DIV)}, {w(31)},
+    /** Words of which the last one ends in the trap, in a kernel with two queues. */
+    private static int[] trapping(int trap) {
+        int[][] words = {{w(Words.DROP)}, {w(Words.JUMP, 64)}, {Words.push(1), Words.push(0), w(Words.DIV)}, {w(31)},
             {w(Words.BACK)}, {w(Words.SEND, 2)}};
+        return words[trap - 1];
+    }
+
+    private static void trapEndsTheTask() {
+        CHECK.sentence("A TRAP ends the task");
         for (int trap = 1; trap <= 6; trap++) {
-            int[] words = trapping[trap - 1];
+            int[] words = trapping(trap);
             TaskKernel x = new TaskKernel(3, 2, 2, 1);
             Words.load(x, 0, words);
             Words.load(x, 10, Words.push(6), w(Words.SLEEP));
@@ -484,6 +496,54 @@ public final class TermsEdgesTest {
             due("the others go on", 4, x.run(64));
             due("the least free task", 1, x.spawn(0, 0));
         }
+    }
+
+    private static void whatGoesWrongEndsTheTaskAlone() {
+        CHECK.sentence("what goes wrong ends the task alone");
+        for (int trap = 1; trap <= 6; trap++) {
+            int[] words = trapping(trap);
+            TaskKernel x = oneOfEachState(words);
+            due("the task that goes wrong", 4, x.spawn(0, 7));
+            Probe.lastAnswer(x, words.length - 1);
+            List<Integer> before = lookAtAllBut4(x);
+            due("TRAP " + trap, 16 * 4 + 8 + trap, x.step());
+            List<Integer> after = lookAtAllBut4(x);
+            for (int i = 0; i < before.size(); i++) {
+                due("TRAP " + trap + ": answer " + i + " about the others", before.get(i), after.get(i));
+            }
+            due("it is free", 0, x.state(4));
+            due("the one that is ready is next", 0, x.next());
+        }
+    }
+
+    /** Task 0 is ready, 1 sleeps, 2 is sending to a full queue 0 and 3 receiving from queue 1; the words stand at 0. */
+    private static TaskKernel oneOfEachState(int... words) {
+        TaskKernel x = new TaskKernel(5, 2, 2, 1);
+        Words.load(x, 0, words);
+        Words.load(x, 10, w(Words.SELF), w(Words.CALL, 12), w(Words.YIELD), w(Words.JUMP, 12));
+        Words.load(x, 20, w(Words.SELF), w(Words.EMIT), w(Words.SELF), Words.push(9), w(Words.SLEEP));
+        Words.load(x, 30, w(Words.SELF), Words.push(5), w(Words.STORE), w(Words.SELF), w(Words.SEND, 0), w(Words.JUMP, 33));
+        Words.load(x, 40, w(Words.SELF), w(Words.RECEIVE, 1));
+        x.spawn(10, 1);
+        x.spawn(20, 2);
+        x.spawn(30, 3);
+        x.spawn(40, 4);
+        x.run(32);
+        for (int t = 0; t < 4; t++) {
+            due("state(" + t + ")", t + 1, x.state(t));
+        }
+        return x;
+    }
+
+    private static List<Integer> lookAtAllBut4(TaskKernel x) {
+        List<Integer> seen = new ArrayList<>();
+        for (int t = 0; t < 4; t++) {
+            seen.addAll(Look.atTask(x, t, 2));
+        }
+        seen.addAll(Look.atQueue(x, 0, 1));
+        seen.addAll(Look.atQueue(x, 1, 1));
+        seen.addAll(Look.atTheRest(x));
+        return seen;
     }
 
     private static void whatWasDoneBeforeATrapStays() {
